@@ -167,6 +167,9 @@ public final class CurvesTest {
         for (int place = 0; place < 12; place++) {
             checks.equal("flowBy(0, " + place * 10 + ")", place * place, book.flowBy(0, place * 10));
         }
+        checks.equal("flowBy(0, 4000)", 121 + 21 * 389, book.flowBy(0, 4000));
+        checks.equal("stageBy(0, 121)", 110, book.stageBy(0, 121));
+        checks.equal("stageBy(0, 122)", -9999, book.stageBy(0, 122));
         refusePoint(book, 0, 1000, 1000, Checks.STATE);
         refusePoint(book, 0, -10, 0, Checks.STATE);
         refusePoint(book, 0, 2001, 1000, Checks.ARGUMENT);

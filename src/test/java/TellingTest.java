@@ -163,6 +163,12 @@ public final class TellingTest {
         book.read(398, 2, 1, 1);
         checks.equal("peaks(0, 100)", 2, book.peaks(0, 100));
         checks.equal("peaks(0, 1)", 9, book.peaks(0, 1));
+        book.read(398, 2, 2, -1);
+        checks.equal("peaks(0, 2) with the last day behind a peak", 4, book.peaks(0, 2));
+        book.read(0, 2, 70, -1);
+        checks.equal("peaks(60, 2) with the first day a peak", 2, book.peaks(60, 2));
+        book.read(0, 2, 70, 1);
+        checks.equal("peaks(60, 2) with the first day ahead of a peak", 2, book.peaks(60, 2));
         GaugeBook full = bookWithFlows();
         full.read(0, 400, 0, 1);
         checks.equal("peaks(0, 100)", 4, full.peaks(0, 100));
@@ -178,6 +184,10 @@ public final class TellingTest {
         checks.equal("peaks(0, 2)", 2, book.peaks(0, 2));
         checks.equal("peaks(0, 3)", 2, book.peaks(0, 3));
         checks.equal("peaks(0, 4)", 1, book.peaks(0, 4));
+        checks.equal("peaks(0, 2) with the first near a lower day", 1, bookWithFlows(8, 9, 9).peaks(0, 2));
+        checks.equal("peaks(0, 2) with the last near a lower day", 2, bookWithFlows(9, 9, 8).peaks(0, 2));
+        checks.equal("peaks(0, 2) behind a first peak", 2, bookWithFlows(20, -1, 8, 9, 9).peaks(0, 2));
+        checks.equal("peaks(0, 2) behind a first peak", 3, bookWithFlows(20, -1, 9, 9, 8).peaks(0, 2));
         GaugeBook flat = bookWithFlows(7, 7, 7, 7, 7, 7, 7);
         checks.equal("peaks(7, 2)", 4, flat.peaks(7, 2));
         checks.equal("peaks(7, 3)", 3, flat.peaks(7, 3));
