@@ -369,6 +369,25 @@ public final class GaugeBook {
         return number;
     }
 
+    /** How many of the numbers in use, which stand in rising order, are less than a value. */
+    private static int countLower(int[] rising, int used, int value) {
+        int number = 0;
+        while (number < used && number < rising.length && rising[number] < value) {
+            number++;
+        }
+        return number;
+    }
+
+    private static void insertInto(int[] row, int used, int place, int value) {
+        if (place < 0 || place > used || used >= row.length) {
+            return;
+        }
+        for (int i = used; i > place; i--) {
+            row[i] = row[i - 1];
+        }
+        row[place] = value;
+    }
+
     /** The value at a part of the way from one value to another; a part over the whole goes on beyond. */
     private static long interpolate(long first, long last, long part, long whole) {
         return whole == 0 ? first : first + (last - first) * part / whole;
@@ -457,16 +476,12 @@ public final class GaugeBook {
 
         /** Answers false, and changes nothing, where the curve cannot take the point. */
         boolean insert(int stage, int flow) {
-            int place = pointsBelow(stage);
+            int place = countLower(pointStages, points, stage);
             if (points >= MAX_POINTS || !fits(place, stage, flow)) {
                 return false;
             }
-            for (int i = points; i > place; i--) {
-                pointStages[i] = pointStages[i - 1];
-                pointFlows[i] = pointFlows[i - 1];
-            }
-            pointStages[place] = stage;
-            pointFlows[place] = flow;
+            insertInto(pointStages, points, place, stage);
+            insertInto(pointFlows, points, place, flow);
             points++;
             return true;
         }
@@ -475,14 +490,15 @@ public final class GaugeBook {
             if (points < 2 || stage < pointStages[0]) {
                 return 0;
             }
-            int upper = Math.min(Math.max(pointsBelow(stage), 1), points - 1);
+            int upper = countLower(pointStages, points, stage);
+            upper = Math.min(Math.max(upper, 1), points - 1);
             int lower = upper - 1;
             return interpolate(pointFlows[lower], pointFlows[upper],
                     stage - pointStages[lower], pointStages[upper] - pointStages[lower]);
         }
 
         int lowestStageFor(int flow) {
-            int upper = pointsUnder(flow);
+            int upper = countLower(pointFlows, points, flow);
             if (upper >= points) {
                 return NO_STAGE;
             }
@@ -500,22 +516,6 @@ public final class GaugeBook {
             boolean isBelowUpper = place >= points
                     || pointStages[place] > stage && pointFlows[place] > flow;
             return isAboveLower && isBelowUpper;
-        }
-
-        private int pointsBelow(int stage) {
-            int number = 0;
-            while (number < points && pointStages[number] < stage) {
-                number++;
-            }
-            return number;
-        }
-
-        private int pointsUnder(int flow) {
-            int number = 0;
-            while (number < points && pointFlows[number] < flow) {
-                number++;
-            }
-            return number;
         }
 
         // The curve's flow is cut towards 0, so the first stage that reaches a flow is rounded up.
@@ -545,7 +545,7 @@ public final class GaugeBook {
             if (told == 0) {
                 return 0;
             }
-            int later = toldAhead(day);
+            int later = countLower(toldDays, told, day);
             if (later >= told) {
                 return toldShifts[told - 1];
             }
@@ -559,7 +559,7 @@ public final class GaugeBook {
 
         /** Answers false, and changes nothing, where there is no room for the day. */
         boolean tell(int day, int shift) {
-            int place = toldAhead(day);
+            int place = countLower(toldDays, told, day);
             if (place < told && toldDays[place] == day) {
                 toldShifts[place] = shift;
                 return true;
@@ -567,22 +567,10 @@ public final class GaugeBook {
             if (told >= MAX_SHIFTS) {
                 return false;
             }
-            for (int i = told; i > place; i--) {
-                toldDays[i] = toldDays[i - 1];
-                toldShifts[i] = toldShifts[i - 1];
-            }
-            toldDays[place] = day;
-            toldShifts[place] = shift;
+            insertInto(toldDays, told, place, day);
+            insertInto(toldShifts, told, place, shift);
             told++;
             return true;
-        }
-
-        private int toldAhead(int day) {
-            int number = 0;
-            while (number < told && toldDays[number] < day) {
-                number++;
-            }
-            return number;
         }
     }
 
@@ -759,7 +747,7 @@ public final class GaugeBook {
                 if (takesLeft) {
                     merged[place] = days[left];
                     left++;
-                } else {
+                } else if (right < end) {
                     merged[place] = days[right];
                     right++;
                 }
