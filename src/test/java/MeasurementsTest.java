@@ -1,240 +1,257 @@
+import java.math.BigInteger;
+
 /** Promises 20 to 24: measure, deviation, wouldShift, count, digest. */
 public final class MeasurementsTest {
-    private static final Checks checks = new Checks();
+    private static final int MIN = Integer.MIN_VALUE;
+    private static final int MAX = Integer.MAX_VALUE;
 
     public static void main(String[] args) {
         measurementsAreNoted();
-        measurementsAreRefused();
+        measureTakesArgumentsInBounds();
+        fortyMeasurementsAreTaken();
+        measureThrowsTheFirstNamed();
         deviationsFollowCurveAndShift();
-        deviationIsRefused();
+        deviationsAtEndsOfCurve();
+        deviationNeedsItsMeasurement();
+        deviationNeedsCompleteCurve();
         shiftsThatWouldFit();
-        shiftThatWouldFitIsRefused();
+        shiftThatWouldFitNeedsItsMeasurement();
+        shiftThatWouldFitNeedsCompleteCurve();
+        shiftThatWouldFitNeedsStageOfFlow();
         countsOfAll();
-        countIsRefused();
+        countTakesWhat0To4();
         digestOfNewBook();
-        digestOfAll();
+        digestOfNumbersInTheirOrder();
         digestFollowsEachChange();
-        checks.finish();
+        measurementQuestionsChangeNothing();
+        Run.finish();
     }
 
-    private static GaugeBook bookWithCurve(int... stagesAndFlows) {
-        GaugeBook book = new GaugeBook();
-        book.addCurve(10);
+    private static Run withCurve(String title, int... stagesAndFlows) {
+        Run run = new Run(title).rows("addCurve(10) -> 0");
         for (int i = 0; i < stagesAndFlows.length; i += 2) {
-            book.addPoint(0, stagesAndFlows[i], stagesAndFlows[i + 1]);
+            run.rows("addPoint(0, " + stagesAndFlows[i] + ", " + stagesAndFlows[i + 1] + ")");
         }
-        return book;
+        return run;
     }
 
     private static void measurementsAreNoted() {
-        checks.part("20 measure");
-        GaugeBook book = bookWithCurve(0, 0, 100, 1000);
-        checks.equal("measure(0, -500, 0)", 1, book.measure(0, -500, 0));
-        checks.equal("measure(399, 2000, 1000000)", 2, book.measure(399, 2000, 1000000));
-        for (int i = 2; i < 40; i++) {
-            checks.equal("measure(20, 50, " + i + ")", i + 1, book.measure(20, 50, i));
-        }
-        checks.equal("count(4)", 40, book.count(4));
-        refuseMeasurement(book, 20, 50, 5, Checks.STATE);
-        refuseMeasurement(book, 400, 50, 5, Checks.ARGUMENT);
-        for (int i = 2; i < 40; i++) {
-            checks.equal("deviation(" + i + ")", i - 500, book.deviation(i));
-        }
-        checks.equal("deviation(1)", 980000, book.deviation(1));
-        checks.equal("count(2)", 0, book.count(2));
+        withCurve("20 measure: the number of measurements", 0, 0, 100, 1000).rows("measure(20, 50, 7) -> 1",
+                "count(4) -> 1", "measure(20, 50, 7) -> 2", "count(4) -> 2", "measure(10, 20, 300) -> 3",
+                "count(4) -> 3", "deviation(0) -> -493", "deviation(1) -> -493", "deviation(2) -> 100",
+                "count(2) -> 0", "flow(20) -> -1", "state(20) -> 0", "shift(20) -> 0");
     }
 
-    private static void measurementsAreRefused() {
-        checks.part("20 measure refused");
-        GaugeBook book = bookWithCurve(0, 0, 100, 1000);
-        book.measure(20, 50, 5);
-        int[][] wrong = {
-            {-1, 0, 0}, {400, 0, 0}, {0, -501, 0}, {0, 2001, 0}, {0, 0, -1}, {0, 0, 1000001},
-            {Integer.MIN_VALUE, 0, 0}, {Integer.MAX_VALUE, 0, 0}, {0, Integer.MIN_VALUE, 0},
-            {0, Integer.MAX_VALUE, 0}, {0, 0, Integer.MIN_VALUE}, {0, 0, Integer.MAX_VALUE}};
-        for (int[] row : wrong) {
-            refuseMeasurement(book, row[0], row[1], row[2], Checks.ARGUMENT);
-        }
-        checks.equal("measure(20, 50, 5)", 2, book.measure(20, 50, 5));
+    private static void measureTakesArgumentsInBounds() {
+        new Run("20 measure: day is 0 to 399, stage is -500 to 2000, flow is 0 to 1000000").rows(Run.SOME_OF_ALL)
+                .illegalArgument("measure(-1, 5, 5)", "measure(400, 5, 5)", "measure(" + MIN + ", 5, 5)",
+                        "measure(" + MAX + ", 5, 5)", "measure(5, -501, 5)", "measure(5, 2001, 5)",
+                        "measure(5, " + MIN + ", 5)", "measure(5, " + MAX + ", 5)", "measure(5, 5, -1)",
+                        "measure(5, 5, 1000001)", "measure(5, 5, " + MIN + ")", "measure(5, 5, " + MAX + ")",
+                        "measure(-1, 2001, -1)");
+        new Run("20 measure: at the bounds").rows("addCurve(0)", "addPoint(0, -500, 0)",
+                "addPoint(0, 2000, 1000000)", "measure(0, -500, 0) -> 1", "measure(1, -499, 1) -> 2",
+                "measure(399, 2000, 1000000) -> 3", "measure(398, 1999, 999999) -> 4", "deviation(0) -> 0",
+                "deviation(1) -> -399", "deviation(2) -> 0", "deviation(3) -> 399", "wouldShift(0) -> 0",
+                "wouldShift(1) -> 0", "wouldShift(2) -> 0", "wouldShift(3) -> -1");
     }
 
-    private static void refuseMeasurement(GaugeBook book, int day, int stage, int flow,
-            Class<? extends RuntimeException> due) {
-        checks.refused("measure(" + day + ", " + stage + ", " + flow + ")", book, due,
-                () -> book.measure(day, stage, flow));
+    private static void fortyMeasurementsAreTaken() {
+        Run run = withCurve("20 measure: at most 40", 0, 0, 100, 1000);
+        for (int i = 0; i < 40; i++) {
+            run.due("measure(20, 50, " + i + ")", i + 1);
+        }
+        run.illegalState("measure(20, 50, 40)", "measure(0, -500, 0)", "measure(399, 2000, 1000000)")
+                .rows("count(4) -> 40");
+        for (int i = 0; i < 40; i++) {
+            run.due("deviation(" + i + ")", i - 500);
+        }
+        run.outOfBounds("deviation(40)", "wouldShift(40)", "deviation(41)", "deviation(-1)");
+    }
+
+    private static void measureThrowsTheFirstNamed() {
+        Run run = new Run("20 measure: the exception that is named first");
+        for (int i = 0; i < 40; i++) {
+            run.rows("measure(0, 0, 0)");
+        }
+        run.illegalArgument("measure(-1, 0, 0)", "measure(400, 0, 0)", "measure(0, -501, 0)", "measure(0, 2001, 0)",
+                "measure(0, 0, -1)", "measure(0, 0, 1000001)").illegalState("measure(0, 0, 0)");
     }
 
     private static void deviationsFollowCurveAndShift() {
-        checks.part("21 deviation");
-        GaugeBook book = bookWithCurve(0, 0, 100, 1000);
-        book.measure(20, 50, 700);
-        book.measure(20, -1, 3);
-        book.measure(10, 200, 0);
-        checks.equal("deviation(0)", 200, book.deviation(0));
-        checks.equal("deviation(1)", 3, book.deviation(1));
-        checks.equal("deviation(2)", -2000, book.deviation(2));
-        book.setShift(10, -10);
-        book.setShift(30, 50);
-        checks.equal("deviation(0)", 400, book.deviation(0));
-        checks.equal("deviation(2)", -2100, book.deviation(2));
-        book.freeze(0, 400, true);
-        book.read(0, 400, 7, 0);
-        checks.equal("deviation(0)", 400, book.deviation(0));
-        book.addCurve(15);
-        book.addPoint(1, 0, 1);
-        book.addPoint(1, 1, 2);
-        checks.equal("deviation(0)", 669, book.deviation(0));
-        checks.equal("deviation(2)", -2100, book.deviation(2));
-        GaugeBook steep = bookWithCurve(-500, 0, -499, 1000000);
-        steep.setShift(0, -200);
-        steep.measure(10, 2000, 1);
-        checks.equal("deviation(0)", 1 - 2700000000L, steep.deviation(0));
+        withCurve("21 deviation: of the curve of its day, for its stage less the shift", 0, 0, 100, 1000).rows(
+                "measure(20, 50, 700)", "measure(20, -1, 3)", "measure(10, 200, 0)", "deviation(0) -> 200",
+                "deviation(1) -> 3", "deviation(2) -> -2000", "setShift(10, -10)", "setShift(30, 50)",
+                "deviation(0) -> 400", "deviation(1) -> 3", "deviation(2) -> -2100", "freeze(0, 400, true)",
+                "read(0, 400, 7, 0)", "deviation(0) -> 400", "addCurve(15)", "addPoint(1, 0, 1)",
+                "addPoint(1, 1, 2)", "deviation(0) -> 669", "deviation(2) -> -2100", "addCurve(20)",
+                "addPoint(2, 30, 100)", "addPoint(2, 32, 500)", "deviation(0) -> 600", "addCurve(21)",
+                "deviation(0) -> 600");
+        withCurve("21 deviation: in 64 bits", -500, 0, -499, 1000000).rows("setShift(0, -200)",
+                "measure(10, 2000, 1)", "deviation(0) -> -2699999999", "setShift(0, 200)",
+                "deviation(0) -> -2299999999");
     }
 
-    private static void deviationIsRefused() {
-        checks.part("21 deviation refused");
-        GaugeBook book = new GaugeBook();
-        checks.refused("deviation(0)", book, Checks.INDEX, () -> book.deviation(0));
-        book.measure(20, 50, 5);
-        refuseIndexes(book, "deviation", book::deviation);
-        checks.refused("deviation(0)", book, Checks.STATE, () -> book.deviation(0));
-        book.addCurve(21);
-        book.addPoint(0, 0, 0);
-        book.addPoint(0, 1, 1);
-        checks.refused("deviation(0)", book, Checks.STATE, () -> book.deviation(0));
-        book.addCurve(20);
-        checks.refused("deviation(0)", book, Checks.STATE, () -> book.deviation(0));
-        book.addPoint(1, 0, 0);
-        checks.refused("deviation(0)", book, Checks.STATE, () -> book.deviation(0));
-        book.addPoint(1, 1, 2);
-        checks.equal("deviation(0)", -95, book.deviation(0));
+    private static void deviationsAtEndsOfCurve() {
+        withCurve("21 deviation: below the lowest point, at it and above the highest one", 10, 100, 20, 200, 30, 400)
+                .rows("measure(10, 9, 50)", "measure(10, 10, 50)", "measure(10, 11, 50)", "measure(10, 30, 50)",
+                        "measure(10, 31, 50)", "deviation(0) -> 50", "deviation(1) -> -50", "deviation(2) -> -60",
+                        "deviation(3) -> -350", "deviation(4) -> -370", "setShift(10, 1)", "deviation(0) -> 50",
+                        "deviation(1) -> 50", "deviation(2) -> -50", "deviation(4) -> -350", "setShift(10, -1)",
+                        "deviation(0) -> -50", "deviation(3) -> -370");
+        withCurve("21 deviation: the lowest and the highest stage that counts", -500, 9, -499, 10).rows(
+                "measure(10, -500, 0)", "measure(10, 2000, 0)", "deviation(0) -> -9", "deviation(1) -> -2509",
+                "setShift(0, 200)", "deviation(0) -> 0", "deviation(1) -> -2309", "setShift(0, -200)",
+                "deviation(0) -> -209", "deviation(1) -> -2709");
     }
 
-    private interface Asked {
-        void of(int measurement);
+    private static void deviationNeedsItsMeasurement() {
+        String title = "21 deviation: there is such a measurement";
+        withCurve(title, 0, 0, 1, 1).outOfBounds("deviation(-1)", "deviation(0)", "deviation(1)")
+                .rows("measure(20, 5, 5)", "deviation(0) -> 0")
+                .outOfBounds("deviation(-1)", "deviation(1)", "deviation(39)", "deviation(40)",
+                        "deviation(" + MIN + ")", "deviation(" + MAX + ")")
+                .rows("measure(20, 6, 7)", "deviation(1) -> 1", "deviation(0) -> 0").outOfBounds("deviation(2)");
+        new Run(title + ", named ahead of the curve").outOfBounds("deviation(0)").rows("measure(0, 0, 0)")
+                .outOfBounds("deviation(1)", "deviation(-1)");
     }
 
-    private static void refuseIndexes(GaugeBook book, String call, Asked asked) {
-        for (int index : new int[] {-1, 1, 39, 40, Integer.MIN_VALUE, Integer.MAX_VALUE}) {
-            checks.refused(call + "(" + index + ")", book, Checks.INDEX, () -> asked.of(index));
-        }
+    private static void deviationNeedsCompleteCurve() {
+        new Run("21 deviation: its day has a curve, which is complete").rows("measure(20, 50, 5)",
+                "measure(19, 50, 5)").illegalState("deviation(0)")
+                .rows("addCurve(21)", "addPoint(0, 0, 0)", "addPoint(0, 1, 1)").illegalState("deviation(0)")
+                .rows("addCurve(20)").illegalState("deviation(0)", "deviation(1)")
+                .rows("addPoint(1, 0, 0)").illegalState("deviation(0)", "deviation(1)")
+                .rows("addPoint(1, 1, 2)", "deviation(0) -> -95").illegalState("deviation(1)")
+                .rows("addCurve(19)", "deviation(0) -> -95").illegalState("deviation(1)")
+                .rows("addPoint(2, 0, 0)", "addPoint(2, 50, 5)", "deviation(1) -> 0", "deviation(0) -> -95");
     }
 
     private static void shiftsThatWouldFit() {
-        checks.part("22 wouldShift");
-        GaugeBook book = bookWithCurve(0, 10, 100, 1000);
-        book.measure(20, 50, 505);
-        book.measure(20, 50, 506);
-        book.measure(20, -500, 1000);
-        book.measure(20, 2000, 0);
-        book.measure(20, 7, 10);
-        checks.equal("wouldShift(0)", 0, book.wouldShift(0));
-        checks.equal("wouldShift(1)", -1, book.wouldShift(1));
-        checks.equal("wouldShift(2)", -600, book.wouldShift(2));
-        checks.equal("wouldShift(3)", 2000, book.wouldShift(3));
-        checks.equal("wouldShift(4)", 7, book.wouldShift(4));
-        book.setShift(20, 100);
-        checks.equal("wouldShift(0)", 0, book.wouldShift(0));
-        book.addCurve(20);
-        book.addPoint(1, 30, 0);
-        book.addPoint(1, 40, 1000);
-        checks.equal("wouldShift(0)", 14, book.wouldShift(0));
-        checks.equal("wouldShift(2)", -540, book.wouldShift(2));
+        withCurve("22 wouldShift: its stage, less what stageBy() tells", 10, 100, 1000, 10000).rows(
+                "measure(20, 50, 500)", "measure(20, 50, 501)", "measure(20, -500, 10000)",
+                "measure(20, 2000, 0)", "measure(20, 7, 100)", "measure(20, 7, 99)", "measure(20, 7, 101)",
+                "wouldShift(0) -> 0", "wouldShift(1) -> -1", "wouldShift(2) -> -1500", "wouldShift(3) -> 1990",
+                "wouldShift(4) -> -3", "wouldShift(5) -> -3", "wouldShift(6) -> -4", "setShift(20, 100)",
+                "wouldShift(0) -> 0", "addCurve(20)", "addPoint(1, 30, 0)", "addPoint(1, 40, 10000)",
+                "wouldShift(0) -> 19", "wouldShift(2) -> -540", "addCurve(21)", "wouldShift(0) -> 19");
+        withCurve("22 wouldShift: the widest ones", -500, 0, 2000, 1000000).rows("measure(10, 2000, 0)",
+                "measure(399, -500, 1000000)", "wouldShift(0) -> 2500", "wouldShift(1) -> -2500");
     }
 
-    private static void shiftThatWouldFitIsRefused() {
-        checks.part("22 wouldShift refused");
-        GaugeBook book = new GaugeBook();
-        checks.refused("wouldShift(0)", book, Checks.INDEX, () -> book.wouldShift(0));
-        book.measure(20, 50, 5);
-        refuseIndexes(book, "wouldShift", book::wouldShift);
-        checks.refused("wouldShift(0)", book, Checks.STATE, () -> book.wouldShift(0));
-        book.addCurve(21);
-        book.addPoint(0, 0, 0);
-        book.addPoint(0, 9, 9);
-        checks.refused("wouldShift(0)", book, Checks.STATE, () -> book.wouldShift(0));
-        book.addCurve(20);
-        checks.refused("wouldShift(0)", book, Checks.STATE, () -> book.wouldShift(0));
-        book.addPoint(1, 0, 0);
-        checks.refused("wouldShift(0)", book, Checks.STATE, () -> book.wouldShift(0));
-        book.addPoint(1, 1, 4);
-        checks.refused("wouldShift(0)", book, Checks.STATE, () -> book.wouldShift(0));
-        book.addPoint(1, 10, 5);
-        checks.equal("wouldShift(0)", 40, book.wouldShift(0));
+    private static void shiftThatWouldFitNeedsItsMeasurement() {
+        String title = "22 wouldShift: there is such a measurement";
+        withCurve(title, 0, 0, 1, 1).outOfBounds("wouldShift(-1)", "wouldShift(0)", "wouldShift(1)")
+                .rows("measure(20, 5, 1)", "wouldShift(0) -> 4")
+                .outOfBounds("wouldShift(-1)", "wouldShift(1)", "wouldShift(39)", "wouldShift(40)",
+                        "wouldShift(" + MIN + ")", "wouldShift(" + MAX + ")")
+                .rows("measure(20, 6, 0)", "wouldShift(1) -> 6", "wouldShift(0) -> 4").outOfBounds("wouldShift(2)");
+        new Run(title + ", named ahead of the curve").outOfBounds("wouldShift(0)").rows("measure(0, 0, 0)")
+                .outOfBounds("wouldShift(1)", "wouldShift(-1)");
+    }
+
+    private static void shiftThatWouldFitNeedsCompleteCurve() {
+        new Run("22 wouldShift: its day has a curve, which is complete").rows("measure(20, 50, 0)",
+                "measure(19, 50, 0)").illegalState("wouldShift(0)")
+                .rows("addCurve(21)", "addPoint(0, 0, 0)", "addPoint(0, 9, 9)").illegalState("wouldShift(0)")
+                .rows("addCurve(20)").illegalState("wouldShift(0)", "wouldShift(1)")
+                .rows("addPoint(1, 3, 0)").illegalState("wouldShift(0)", "wouldShift(1)")
+                .rows("addPoint(1, 4, 2)", "wouldShift(0) -> 47").illegalState("wouldShift(1)")
+                .rows("addCurve(19)", "wouldShift(0) -> 47").illegalState("wouldShift(1)")
+                .rows("addPoint(2, 0, 0)", "addPoint(2, 50, 5)", "wouldShift(1) -> 50", "wouldShift(0) -> 47");
+    }
+
+    private static void shiftThatWouldFitNeedsStageOfFlow() {
+        withCurve("22 wouldShift: stageBy() does not tell -9999", 10, 100, 20, 200).rows("measure(20, 50, 199)",
+                "measure(20, 50, 200)", "measure(20, 50, 201)", "measure(20, 50, 1000000)", "wouldShift(0) -> 30",
+                "wouldShift(1) -> 30").illegalState("wouldShift(2)", "wouldShift(3)")
+                .rows("deviation(2) -> -299", "addPoint(0, 30, 201)", "wouldShift(2) -> 20")
+                .illegalState("wouldShift(3)").rows("addPoint(0, 2000, 1000000)", "wouldShift(3) -> -1950");
     }
 
     private static void countsOfAll() {
-        checks.part("23 count");
-        GaugeBook book = bookWithCurve(0, 0, 1, 1);
-        book.setShift(1, 0);
-        book.setShift(2, 0);
-        book.setShift(2, 5);
-        book.read(0, 3, 0, 0);
-        book.freeze(10, 4, true);
-        for (int i = 0; i < 5; i++) {
-            book.measure(0, 0, 0);
-        }
-        for (int what = 0; what < 5; what++) {
-            checks.equal("count(" + what + ")", what + 1, book.count(what));
-        }
+        withCurve("23 count: curves, shifts, days with a stage, days of ice, measurements", 0, 0, 1, 1).rows(
+                "setShift(1, 0)", "setShift(2, 0)", "setShift(2, 5)", "read(0, 3, 0, 0)", "freeze(10, 4, true)",
+                "measure(0, 0, 0)", "measure(0, 0, 0)", "measure(0, 0, 0)", "measure(0, 0, 0)", "measure(0, 0, 0)",
+                "count(0) -> 1", "count(1) -> 2", "count(2) -> 3", "count(3) -> 4", "count(4) -> 5");
+        new Run("23 count: as many as there may be").rows("read(0, 400, 0, 0)", "freeze(0, 400, true)",
+                "count(2) -> 400", "count(3) -> 400", "erase(399, 1)", "freeze(0, 1, false)", "count(2) -> 399",
+                "count(3) -> 399", "erase(0, 1)", "freeze(399, 1, false)", "count(2) -> 398", "count(3) -> 398",
+                "erase(0, 399)", "freeze(1, 399, false)", "count(2) -> 0", "count(3) -> 0");
     }
 
-    private static void countIsRefused() {
-        checks.part("23 count refused");
-        GaugeBook book = bookWithCurve(0, 0, 1, 1);
-        for (int what : new int[] {-1, 5, Integer.MIN_VALUE, Integer.MAX_VALUE}) {
-            checks.refused("count(" + what + ")", book, Checks.INDEX, () -> book.count(what));
+    private static void countTakesWhat0To4() {
+        new Run("23 count: what is 0 to 4").rows(Run.SOME_OF_ALL).rows("count(0) -> 2", "count(1) -> 2",
+                "count(2) -> 96", "count(3) -> 10", "count(4) -> 2").outOfBounds("count(-1)", "count(-2)",
+                "count(5)", "count(6)", "count(" + MIN + ")", "count(" + MAX + ")");
+    }
+
+    /** The document's sum without a bound, of which the lowest 64 bits are what wraps around. */
+    private static long digestOf(int factor, int limit, String... rows) {
+        BigInteger d = BigInteger.valueOf(317);
+        Run counts = new Run("24 digest: counts").rows(rows);
+        for (int what = 0; what < 5; what++) {
+            d = next(d, counts.ask("count(" + what + ")"));
         }
+        d = next(next(d, factor), limit);
+        Run shifts = new Run("24 digest: shifts").rows(rows);
+        Run states = new Run("24 digest: states").rows(rows);
+        Run flows = new Run("24 digest: flows").rows(rows);
+        for (int day = 0; day < 400; day++) {
+            d = next(d, shifts.ask("shift(" + day + ")"));
+            d = next(d, states.ask("state(" + day + ")"));
+            d = next(d, flows.ask("flow(" + day + ")"));
+        }
+        return d.longValue();
+    }
+
+    private static BigInteger next(BigInteger d, long x) {
+        return d.multiply(BigInteger.valueOf(31)).add(BigInteger.valueOf(x));
     }
 
     private static void digestOfNewBook() {
-        checks.part("24 digest of a new book");
-        long d = 317;
+        BigInteger d = BigInteger.valueOf(317);
         for (int x : new int[] {0, 0, 0, 0, 0, 60, 5}) {
-            d = d * 31 + x;
+            d = next(d, x);
         }
         for (int day = 0; day < 400; day++) {
-            d = ((d * 31) * 31) * 31 - 1;
+            d = next(next(next(d, 0), 0), -1);
         }
-        checks.equal("digest()", d, new GaugeBook().digest());
+        new Run("24 digest: of a new book, wrapped around").due("digest()", d.longValue());
     }
 
-    private static void digestOfAll() {
-        checks.part("24 digest");
-        GaugeBook book = bookWithCurve(-500, 0, -499, 1000000);
-        book.setShift(5, -77);
-        book.setShift(300, 123);
-        book.read(0, 350, -400, 2);
-        book.erase(50, 4);
-        book.freeze(40, 7, true);
-        book.measure(3, 4, 5);
-        book.setRules(33, 44);
-        long d = 317;
-        for (int x : new int[] {1, 2, 346, 7, 1, 33, 44}) {
-            d = d * 31 + x;
-        }
-        for (int day = 0; day < 400; day++) {
-            d = d * 31 + book.shift(day);
-            d = d * 31 + book.state(day);
-            d = d * 31 + book.flow(day);
-        }
-        checks.equal("digest()", d, book.digest());
-        checks.equal("digest() again", d, book.digest());
+    private static void digestOfNumbersInTheirOrder() {
+        String title = "24 digest: wraps around as a 64-bit integer";
+        new Run(title).rows(Run.SOME_OF_ALL).due("digest()", digestOf(70, 6, Run.SOME_OF_ALL))
+                .due("digest()", digestOf(70, 6, Run.SOME_OF_ALL));
+        String[] wide = {"addCurve(0)", "addPoint(0, -500, 0)", "addPoint(0, -499, 1000000)", "setShift(5, -200)",
+            "setShift(300, 200)", "read(0, 350, -400, 6)", "erase(50, 4)", "freeze(40, 7, true)",
+            "measure(3, 4, 5)", "setRules(0, 60)", "erase(100, 60)", "erase(170, 61)"};
+        new Run(title).rows(wide).due("digest()", digestOf(0, 60, wide));
+        String[] all = {"addCurve(0)", "addPoint(0, 0, 999999)", "addPoint(0, 1, 1000000)", "setShift(0, -200)",
+            "read(0, 400, 2000, 0)", "freeze(0, 400, true)", "setRules(100, 0)"};
+        new Run(title).rows(all).due("digest()", digestOf(100, 0, all));
+        Run last = new Run("24 digest: the last number is the last day's flow").rows(Run.FLOW_IS_STAGE)
+                .rows("read(399, 1, 10, 0)");
+        long d = last.ask("digest()");
+        last.rows("read(399, 1, 11, 0)").due("digest()", d + 1).rows("read(399, 1, 9, 0)").due("digest()", d - 1)
+                .rows("read(399, 1, 0, 0)").due("digest()", d - 10);
     }
 
     private static void digestFollowsEachChange() {
-        checks.part("24 digest after each change");
-        GaugeBook book = new GaugeBook();
-        java.util.Set<Long> seen = new java.util.HashSet<>();
-        seen.add(book.digest());
-        Runnable[] changes = {
-            () -> book.addCurve(0), () -> book.read(0, 5, 10, 1), () -> book.setShift(9, 0),
-            () -> book.setShift(9, 1), () -> book.freeze(0, 1, true), () -> book.setRules(61, 5),
-            () -> book.setRules(61, 6), () -> book.measure(0, 0, 0), () -> book.erase(4, 1)};
-        for (Runnable change : changes) {
-            change.run();
-            seen.add(book.digest());
+        String[] changes = {"addCurve(0)", "read(0, 5, 10, 1)", "addPoint(0, 0, 0)", "addPoint(0, 5, 5)",
+            "setShift(9, 0)", "setShift(9, 1)", "freeze(0, 1, true)", "setRules(61, 5)", "setRules(61, 6)",
+            "measure(0, 0, 0)", "erase(4, 1)", "freeze(0, 1, false)", "addPoint(0, 6, 9)", "addCurve(399)",
+            "read(399, 1, 5, 0)"};
+        Run run = new Run("24 digest: after each change");
+        for (int i = 0; i < changes.length; i++) {
+            String[] past = java.util.Arrays.copyOf(changes, i + 1);
+            run.rows(changes[i]).due("digest()", digestOf(i < 7 ? 60 : 61, i < 8 ? 5 : 6, past));
         }
-        checks.equal("digests that differ", changes.length + 1, seen.size());
+    }
+
+    private static void measurementQuestionsChangeNothing() {
+        new Run("21 to 24: what only tells changes nothing").rows(Run.SOME_OF_ALL).changesNothing("deviation(0)",
+                "deviation(1)", "wouldShift(0)", "count(0)", "count(4)", "digest()");
     }
 }
