@@ -108,27 +108,9 @@ public final class CallsTest {
         wrong.rows("count(2) -> 1");
     }
 
-    /** Six curves of 12 points, 20 shifts, 40 measurements, and a stage and ice on every day. */
-    private static Run fullBook() {
-        Run run = new Run("calls: a book with as much of all as there may be");
-        for (int curve = 0; curve < 6; curve++) {
-            run.due("addCurve(" + (5 - curve) * 66 + ")", curve);
-            for (int point = 0; point < 12; point++) {
-                run.due("addPoint(" + curve + ", " + (point * 200 - 400) + ", " + point * (curve + 1) * 1000 + ")",
-                        point + 1);
-            }
-        }
-        for (int i = 0; i < 20; i++) {
-            run.rows("setShift(" + (399 - i * 21) + ", " + (i * 20 - 200) + ")");
-        }
-        for (int i = 0; i < 40; i++) {
-            run.due("measure(" + i * 10 + ", " + i * 50 + ", " + i * 300 + ")", i + 1);
-        }
-        return run.rows("read(0, 400, -500, 5) -> 0", "freeze(0, 400, true) -> 400", "setRules(50, 60) -> 60");
-    }
-
     private static void fullBookAnswers() {
-        fullBook().rows("count(0) -> 6", "count(1) -> 20", "count(2) -> 400", "count(3) -> 400", "count(4) -> 40",
+        new Run("calls: a book with as much of all as there may be").rows(Run.asMuchAsThereMayBe()).rows(
+                "count(0) -> 6", "count(1) -> 20", "count(2) -> 400", "count(3) -> 400", "count(4) -> 40",
                 "curveOf(0) -> 5", "curveOf(65) -> 5", "curveOf(66) -> 4", "curveOf(399) -> 0",
                 "shift(0) -> 180", "shift(21) -> 160", "shift(399) -> -200", "flow(0) -> 0",
                 "flow(399) -> 5237", "sum(0, 399, 0) -> 400", "deviation(0) -> -6600", "deviation(39) -> -1005",

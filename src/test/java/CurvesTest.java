@@ -114,6 +114,9 @@ public final class CurvesTest {
                 .rows("addCurve(399) -> 5");
         new Run("2 addCurve: no two from day 399").rows("addCurve(399) -> 0").illegalState("addCurve(399)")
                 .rows("addCurve(398) -> 1");
+        new Run("2 addCurve: the one that holds from this day keeps its points").rows(Run.SOME_OF_ALL)
+                .illegalState("addCurve(10)", "addCurve(200)")
+                .rows("addPoint(0, 50, 400) -> 4", "addPoint(1, 50, 400) -> 2");
     }
 
     private static void addCurveThrowsTheFirstNamed() {

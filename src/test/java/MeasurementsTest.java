@@ -1,4 +1,5 @@
 import java.math.BigInteger;
+import java.util.Arrays;
 
 /** Promises 20 to 24: measure, deviation, wouldShift, count, digest. */
 public final class MeasurementsTest {
@@ -194,15 +195,25 @@ public final class MeasurementsTest {
             d = next(d, counts.ask("count(" + what + ")"));
         }
         d = next(next(d, factor), limit);
-        Run shifts = new Run("24 digest: shifts").rows(rows);
-        Run states = new Run("24 digest: states").rows(rows);
-        Run flows = new Run("24 digest: flows").rows(rows);
+        long[] shifts = onEachDay("shift", rows);
+        long[] states = onEachDay("state", rows);
+        long[] flows = onEachDay("flow", rows);
         for (int day = 0; day < 400; day++) {
-            d = next(d, shifts.ask("shift(" + day + ")"));
-            d = next(d, states.ask("state(" + day + ")"));
-            d = next(d, flows.ask("flow(" + day + ")"));
+            d = next(next(next(d, shifts[day]), states[day]), flows[day]);
         }
         return d.longValue();
+    }
+
+    private static long[] onEachDay(String question, String... rows) {
+        long[] answers = new long[400];
+        Run run = new Run("24 digest: " + question).rows(rows);
+        for (int day = 0; day < 400; day++) {
+            if (run.calls() == Run.MOST_CALLS) {
+                run = new Run("24 digest: " + question).rows(rows);
+            }
+            answers[day] = run.ask(question + "(" + day + ")");
+        }
+        return answers;
     }
 
     private static BigInteger next(BigInteger d, long x) {
@@ -231,6 +242,8 @@ public final class MeasurementsTest {
         String[] all = {"addCurve(0)", "addPoint(0, 0, 999999)", "addPoint(0, 1, 1000000)", "setShift(0, -200)",
             "read(0, 400, 2000, 0)", "freeze(0, 400, true)", "setRules(100, 0)"};
         new Run(title).rows(all).due("digest()", digestOf(100, 0, all));
+        String[] full = Run.asMuchAsThereMayBe();
+        new Run(title).rows(full).due("digest()", digestOf(50, 60, full));
         Run last = new Run("24 digest: the last number is the last day's flow").rows(Run.FLOW_IS_STAGE)
                 .rows("read(399, 1, 10, 0)");
         long d = last.ask("digest()");
@@ -245,7 +258,7 @@ public final class MeasurementsTest {
             "read(399, 1, 5, 0)"};
         Run run = new Run("24 digest: after each change");
         for (int i = 0; i < changes.length; i++) {
-            String[] past = java.util.Arrays.copyOf(changes, i + 1);
+            String[] past = Arrays.copyOf(changes, i + 1);
             run.rows(changes[i]).due("digest()", digestOf(i < 7 ? 60 : 61, i < 8 ? 5 : 6, past));
         }
     }

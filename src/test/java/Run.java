@@ -32,6 +32,28 @@ final class Run {
         this.title = title;
     }
 
+    /** Six curves of 12 points, 20 shifts, 40 measurements, and a stage and ice on every day. */
+    static String[] asMuchAsThereMayBe() {
+        List<String> rows = new ArrayList<>();
+        for (int curve = 0; curve < 6; curve++) {
+            rows.add("addCurve(" + (5 - curve) * 66 + ") -> " + curve);
+            for (int point = 0; point < 12; point++) {
+                rows.add("addPoint(" + curve + ", " + (point * 200 - 400) + ", " + point * (curve + 1) * 1000
+                        + ") -> " + (point + 1));
+            }
+        }
+        for (int i = 0; i < 20; i++) {
+            rows.add("setShift(" + (399 - i * 21) + ", " + (i * 20 - 200) + ")");
+        }
+        for (int i = 0; i < 40; i++) {
+            rows.add("measure(" + i * 10 + ", " + i * 50 + ", " + i * 300 + ") -> " + (i + 1));
+        }
+        rows.add("read(0, 400, -500, 5) -> 0");
+        rows.add("freeze(0, 400, true) -> 400");
+        rows.add("setRules(50, 60) -> 60");
+        return rows.toArray(new String[0]);
+    }
+
     /** A run on a book whose days, from day 0 on, have these flows; -1 for a day without one. No gap is filled. */
     static Run withFlows(String title, int... flows) {
         Run run = new Run(title).rows(FLOW_IS_STAGE).rows("setRules(60, 0)");
